@@ -11,6 +11,7 @@ public final class EchoesTest {
         runIsSpeaking();
         runRefusals();
         learntIsTheLeast();
+        learntEndsAt200();
         learntChangesNothing();
         learntRefusals();
         DUE.end("EchoesTest");
@@ -169,6 +170,16 @@ public final class EchoesTest {
         z.part(0, 1023);
         z.rule(0, 0);
         DUE.is("never learnt", z.learnt(1, 1000, 0), -6);
+    }
+
+    /** Nothing is learnt, so that LEFT is 1023 * FAR / 1024; the seeds were sought apart from the class. */
+    private static void learntEndsAt200() {
+        EchoTaps x = new EchoTaps();
+        x.rule(0, 0);
+        x.part(0, 1023);
+        DUE.is("learnt by 199", x.learnt(144, 1000, 500), 199);
+        DUE.is("learnt by 200", x.learnt(1359, 1000, 500), 200);
+        DUE.is("learnt by 201", x.learnt(976, 1000, 500), -6);
     }
 
     private static void learntChangesNothing() {

@@ -50,6 +50,8 @@ public final class ImagesTest {
         x.run(5, 60, 1000);
         x.run(6, 60, 0);
         x.run(7, 60, 10);
+        x.run(8, 60, 900);
+        x.run(9, 60, 0);
         for (int i = 0; i < 20; i++) {
             x.tick(400, 1);
         }

@@ -13,6 +13,7 @@ public final class TicksTest {
         talkAndHold();
         hangOfNought();
         tones();
+        toneReachesAheadOfTick1();
         onATone();
         learnedEdges();
         delaySees();
@@ -109,6 +110,31 @@ public final class TicksTest {
         DUE.is("LEFT", y.last(1), 2000 + 4000);
         DUE.is("tap(0) by 1024 * 6000 * 1000 / 1000001", y.tap(0), -4096 + 6143);
         DUE.is("tap(1) by 1024 * 6000 * 1 / 1000001", y.tap(1), 6);
+        greatestLeft();
+    }
+
+    /** All TAPS at an end and all FARS at theirs: the greatest ESTIMATE there is. */
+    private static void greatestLeft() {
+        EchoTaps x = new EchoTaps();
+        x.rule(0, 1024);
+        x.rule(1, 0);
+        int[] fars = {1, 1, 1, 1, 1, 1, 1, 2};
+        for (int i = 0; i < 40; i++) {
+            x.tick(fars[i % 8] + (i == 12 ? 1 : 0), -2000);
+        }
+        DUE.is("sizes of TAPS", x.count(3), 8 * 4096);
+        x.rule(0, 0);
+        for (int i = 0; i < 8; i++) {
+            x.tick(i == 3 ? 1000 : 1000 - i % 2, 0);
+        }
+        DUE.is("ESTIMATE", x.last(0), -4 * (8000 - 3));
+        x.rule(0, 1024);
+        x.tick(1000, 2000);
+        DUE.is("LEFT", x.last(1), 2000 + 4 * (8000 - 3));
+        DUE.is("OUT", x.last(2), 2000);
+        // 1024 * 33988 * 1000 / 7994003 = 4353.7
+        DUE.is("POWER", x.last(4), 5 * 1000000 + 3 * 998001);
+        DUE.is("tap(0)", x.tap(0), -4096 + 1024L * 33988 * 1000 / 7994003);
     }
 
     private static void loudReaches23Back() {
@@ -180,6 +206,22 @@ public final class TicksTest {
         }
         z.tick(5, 0);
         DUE.is("TONE by one", z.last(6), 0);
+        for (int t = 1; t <= 20; t++) {
+            z.tick(0, 0);
+            DUE.is("TONE " + t + " behind one", z.last(6), 0);
+        }
+    }
+
+    /** FARS ahead of TICK 1 are 0 and count among the 16: seven of them, 5, seven times 0, 5. */
+    private static void toneReachesAheadOfTick1() {
+        EchoTaps x = new EchoTaps();
+        for (int t = 1; t <= 8; t++) {
+            x.tick(t == 1 ? 5 : 0, 0);
+            DUE.is("TONE at " + t, x.last(6), 0);
+        }
+        x.tick(5, 0);
+        DUE.is("TONE at 9", x.last(6), 8);
+        DUE.is("its beginning", x.began(0, 1), 9);
     }
 
     private static void onATone() {

@@ -160,6 +160,7 @@ public final class WhereTest {
         int[] nears = {5, 5, 0, 7, 0, 0, 9, 9, 9};
         for (int near : nears) {
             x.tick(0, near);
+            DUE.is("the last TICK is one of them", x.began(-1, 0), x.count(0) < 4 ? 1 : x.count(0) < 7 ? 2 : 3);
         }
         DUE.is("how many", x.began(-1, 0), 3);
         DUE.is("began(0, 0)", x.began(0, 0), 1);
