@@ -18,7 +18,7 @@ public final class EchoesTest {
     }
 
     private static void parts() {
-        EchoTaps x = new EchoTaps();
+        Counted x = new Counted();
         for (int k = 0; k < 8; k++) {
             DUE.is("part(" + k + ", 1024)", x.part(k, 1024), OUT);
             DUE.is("part(" + k + ", -1025)", x.part(k, -1025), OUT);
@@ -40,7 +40,7 @@ public final class EchoesTest {
     }
 
     private static void speakByHand() {
-        EchoTaps x = new EchoTaps();
+        Counted x = new Counted();
         x.part(0, -300);
         x.part(1, 700);
         x.speak(1000, 10);
@@ -61,7 +61,7 @@ public final class EchoesTest {
     }
 
     private static void speakIsLimited() {
-        EchoTaps x = new EchoTaps();
+        Counted x = new Counted();
         for (int k = 0; k < 8; k++) {
             x.part(k, -1024);
         }
@@ -82,7 +82,7 @@ public final class EchoesTest {
     private static void echoComesByLag() {
         for (int lag = 0; lag <= 15; lag++) {
             for (int k = 0; k < 8; k += 7) {
-                EchoTaps x = new EchoTaps();
+                Counted x = new Counted();
                 x.part(k, 512);
                 x.part(8, lag);
                 for (int t = 0; t <= 23; t++) {
@@ -93,8 +93,8 @@ public final class EchoesTest {
         }
     }
 
-    private static EchoTaps withWay() {
-        EchoTaps x = new EchoTaps();
+    private static Counted withWay() {
+        Counted x = new Counted();
         x.part(0, 400);
         x.part(1, -150);
         x.part(5, 60);
@@ -106,8 +106,8 @@ public final class EchoesTest {
     }
 
     private static void runIsSpeaking() {
-        EchoTaps x = withWay();
-        EchoTaps y = withWay();
+        Counted x = withWay();
+        Counted y = withWay();
         int[][] runs = {{0, 60, 1000}, {65536, 1, 7}, {12345, 33, 0}, {99, 60, 500}};
         for (int[] r : runs) {
             int z = r[0];
@@ -128,7 +128,7 @@ public final class EchoesTest {
     }
 
     private static void runRefusals() {
-        EchoTaps x = new EchoTaps();
+        Counted x = new Counted();
         int[][] wrong = {{-1, 1, 0}, {65537, 1, 0}, {0, 0, 0}, {0, 61, 0}, {0, -1, 0}, {0, 1, -1}, {0, 1, 1001},
             {Integer.MIN_VALUE, 1, 0}, {0, Integer.MAX_VALUE, 0}, {0, 1, Integer.MIN_VALUE}};
         for (int[] w : wrong) {
@@ -138,7 +138,7 @@ public final class EchoesTest {
     }
 
     /** The least n found by running image by image, TICK by TICK. */
-    private static int leastBySpeaking(EchoTaps y, int seed, int loud, int limit) {
+    private static int leastBySpeaking(Counted y, int seed, int loud, int limit) {
         int z = seed;
         int calm = 0;
         int found = -6;
@@ -156,14 +156,15 @@ public final class EchoesTest {
     private static void learntIsTheLeast() {
         int[] limits = {0, 1, 2, 5, 20, 100, 300, 999};
         for (int limit : limits) {
-            EchoTaps x = withWay();
-            EchoTaps y = withWay();
+            Counted x = withWay();
+            Counted y = withWay();
             DUE.is("learnt(5, 900, " + limit + ")", x.learnt(5, 900, limit), leastBySpeaking(y, 5, 900, limit));
             x.run(1, 10, 800);
-            y.run(1, 10, 800);
-            DUE.is("later learnt(0, 1000, " + limit + ")", x.learnt(0, 1000, limit), leastBySpeaking(y, 0, 1000, limit));
+            Counted later = withWay();
+            later.run(1, 10, 800);
+            DUE.is("later learnt(0, 1000, " + limit + ")", x.learnt(0, 1000, limit), leastBySpeaking(later, 0, 1000, limit));
         }
-        EchoTaps z = new EchoTaps();
+        Counted z = new Counted();
         DUE.is("nothing to learn", z.learnt(65536, 1000, 0), 8);
         z.run(1, 60, 1000);
         DUE.is("calm ahead of now does not count", z.learnt(1, 1000, 0), 8);
@@ -174,7 +175,7 @@ public final class EchoesTest {
 
     /** Nothing is learnt, so that LEFT is 1023 * FAR / 1024; the seeds were sought apart from the class. */
     private static void learntEndsAt200() {
-        EchoTaps x = new EchoTaps();
+        Counted x = new Counted();
         x.rule(0, 0);
         x.part(0, 1023);
         DUE.is("learnt by 199", x.learnt(144, 1000, 500), 199);
@@ -183,8 +184,8 @@ public final class EchoesTest {
     }
 
     private static void learntChangesNothing() {
-        EchoTaps x = withWay();
-        EchoTaps y = withWay();
+        Counted x = withWay();
+        Counted y = withWay();
         x.run(17, 40, 700);
         y.run(17, 40, 700);
         x.learnt(3, 1000, 0);
@@ -206,7 +207,7 @@ public final class EchoesTest {
     }
 
     private static void learntRefusals() {
-        EchoTaps x = new EchoTaps();
+        Counted x = new Counted();
         int[][] wrong = {{-1, 0, 0}, {65537, 0, 0}, {0, -1, 0}, {0, 1001, 0}, {0, 0, -1}, {0, 0, 1000},
             {Integer.MAX_VALUE, 0, 0}, {0, Integer.MIN_VALUE, 0}, {0, 0, Integer.MIN_VALUE}};
         for (int[] w : wrong) {

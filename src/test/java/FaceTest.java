@@ -56,7 +56,7 @@ public final class FaceTest {
     }
 
     private static void newObject() {
-        EchoTaps x = new EchoTaps();
+        Counted x = new Counted();
         int[] rules = {512, 5, 0, 0, 0};
         for (int i = 0; i < 5; i++) {
             DUE.is("new count(" + (10 + i) + ")", x.count(10 + i), rules[i]);
@@ -84,12 +84,12 @@ public final class FaceTest {
     }
 
     private static void objectsAreApart() {
-        EchoTaps x = new EchoTaps();
+        Counted x = new Counted();
         x.rule(0, 7);
         x.part(2, 100);
         x.tick(500, 100);
         x.image(1);
-        EchoTaps y = new EchoTaps();
+        Counted y = new Counted();
         DUE.is("another's count(10)", y.count(10), 512);
         DUE.is("another's count(0)", y.count(0), 0);
         DUE.is("another's part(2, 0)", y.part(2, 0), 0);

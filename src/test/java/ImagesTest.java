@@ -12,7 +12,7 @@ public final class ImagesTest {
     }
 
     private static void refusals() {
-        EchoTaps x = new EchoTaps();
+        Counted x = new Counted();
         int[] wrong = {-1, 2, 32, 33, Integer.MIN_VALUE, Integer.MAX_VALUE};
         for (int w : wrong) {
             DUE.is("image(" + w + ")", x.image(w), -2);
@@ -25,7 +25,7 @@ public final class ImagesTest {
         DUE.is("restore(0) then", x.restore(0), 1);
     }
 
-    private static void prepare(EchoTaps x) {
+    private static void prepare(Counted x) {
         x.rule(0, 700);
         x.rule(1, 2);
         x.rule(2, 60);
@@ -38,7 +38,7 @@ public final class ImagesTest {
         x.tick(0, 2000);
     }
 
-    private static void disturb(EchoTaps x) {
+    private static void disturb(Counted x) {
         int[] rules = {1, 20, 300, 5, 9};
         for (int r = 0; r < 5; r++) {
             x.rule(r, rules[r]);
@@ -57,33 +57,7 @@ public final class ImagesTest {
         }
     }
 
-    private static void same(String when, EchoTaps x, EchoTaps y) {
-        for (int i = 0; i <= 14; i++) {
-            if (i != 5) {
-                DUE.is(when + " count(" + i + ")", x.count(i), y.count(i));
-            }
-        }
-        for (int k = 0; k < 8; k++) {
-            DUE.is(when + " tap(" + k + ")", x.tap(k), y.tap(k));
-            DUE.is(when + " last(" + k + ")", x.last(k), y.last(k));
-        }
-        for (int i = 0; i < 32; i++) {
-            for (int what = 0; what < 3; what++) {
-                DUE.is(when + " ago(" + i + ", " + what + ")", x.ago(i, what), y.ago(i, what));
-            }
-        }
-        for (int d = 0; d < 16; d++) {
-            DUE.is(when + " likeness(" + d + ")", x.likeness(d), y.likeness(d));
-        }
-        for (int what = 0; what < 2; what++) {
-            for (int i = -1; i < 30; i++) {
-                DUE.is(when + " began(" + i + ", " + what + ")", x.began(i, what), y.began(i, what));
-            }
-            DUE.is(when + " gain(" + what + ")", x.gain(what), y.gain(what));
-        }
-    }
-
-    private static void sameLater(EchoTaps x, EchoTaps y) {
+    private static void sameLater(Counted x, Counted y) {
         for (int k = 0; k < 9; k++) {
             DUE.is("part(" + k + ", 1)", x.part(k, 1), y.part(k, 1));
         }
@@ -93,36 +67,35 @@ public final class ImagesTest {
     }
 
     private static void keepsAll() {
-        EchoTaps x = new EchoTaps();
-        EchoTaps y = new EchoTaps();
+        Counted x = new Counted();
+        Counted y = new Counted();
         prepare(x);
         prepare(y);
         x.image(1);
-        same("kept:", x, y);
         disturb(x);
         DUE.is("restore(1)", x.restore(1), 1);
-        same("restored:", x, y);
+        Look.same(DUE, "restored:", x, y);
         sameLater(x, y);
     }
 
     private static void twoImages() {
-        EchoTaps x = new EchoTaps();
+        Counted x = new Counted();
         x.image(0);
         prepare(x);
         x.image(1);
         disturb(x);
         DUE.is("IMAGES", x.count(5), 3);
         x.restore(0);
-        same("the first:", x, new EchoTaps());
+        Look.same(DUE, "the first:", x, new Counted());
         DUE.is("IMAGES stay", x.count(5), 3);
-        EchoTaps y = new EchoTaps();
+        Counted y = new Counted();
         prepare(y);
         x.restore(1);
-        same("the second:", x, y);
+        Look.same(DUE, "the second:", x, y);
     }
 
     private static void imageStays() {
-        EchoTaps x = new EchoTaps();
+        Counted x = new Counted();
         x.tick(100, 10);
         x.image(0);
         x.tick(200, 20);
@@ -140,7 +113,7 @@ public final class ImagesTest {
     }
 
     private static void counts() {
-        EchoTaps x = new EchoTaps();
+        Counted x = new Counted();
         int[] wrong = {-1, 6, 7, 8, 9, 15, Integer.MIN_VALUE, Integer.MAX_VALUE};
         for (int w : wrong) {
             DUE.is("count(" + w + ")", x.count(w), -2);

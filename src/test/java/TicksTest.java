@@ -27,7 +27,7 @@ public final class TicksTest {
     private static void rules() {
         int[] first = {512, 5, 0, 0, 0};
         int[] most = {1024, 20, 500, 50, 15};
-        EchoTaps x = new EchoTaps();
+        Counted x = new Counted();
         for (int r = 0; r < 5; r++) {
             DUE.is("rule(" + r + ", -1)", x.rule(r, -1), -2);
             DUE.is("rule(" + r + ", most + 1)", x.rule(r, most[r] + 1), -2);
@@ -46,7 +46,7 @@ public final class TicksTest {
     }
 
     private static void refusedTicks() {
-        EchoTaps x = new EchoTaps();
+        Counted x = new Counted();
         int[][] wrong = {{1001, 0}, {-1001, 0}, {0, 2001}, {0, -2001}, {Integer.MIN_VALUE, 0},
             {Integer.MAX_VALUE, 0}, {0, Integer.MIN_VALUE}, {0, Integer.MAX_VALUE}};
         for (int[] w : wrong) {
@@ -61,12 +61,12 @@ public final class TicksTest {
         for (int w : wrongTaps) {
             DUE.is("tap(" + w + ")", x.tap(w), OUT);
             DUE.is("last(" + w + ")", x.last(w), OUT);
-            DUE.is("fresh last(" + w + ")", new EchoTaps().last(w), OUT);
+            DUE.is("fresh last(" + w + ")", new Counted().last(w), OUT);
         }
     }
 
     private static void firstTickByHand() {
-        EchoTaps x = new EchoTaps();
+        Counted x = new Counted();
         DUE.is("tick(1000, 300)", x.tick(1000, 300), 300);
         int[] want = {0, 300, 300, 1000, 1000000, 0, 0, 1};
         for (int i = 0; i < 8; i++) {
@@ -84,7 +84,7 @@ public final class TicksTest {
     }
 
     private static void estimateIsCutTowardsZero() {
-        EchoTaps x = new EchoTaps();
+        Counted x = new Counted();
         x.rule(0, 1024);
         x.tick(1000, 1);
         DUE.is("tap(0), 1024 * 1000 / 1000000", x.tap(0), 1);
@@ -94,12 +94,12 @@ public final class TicksTest {
     }
 
     private static void tapsAreLimited() {
-        EchoTaps x = new EchoTaps();
+        Counted x = new Counted();
         x.rule(0, 1024);
         x.rule(1, 0);
         x.tick(1, 2000);
         DUE.is("tap(0) upwards", x.tap(0), 4095);
-        EchoTaps y = new EchoTaps();
+        Counted y = new Counted();
         y.rule(0, 1024);
         y.rule(1, 0);
         y.tick(1, -2000);
@@ -115,7 +115,7 @@ public final class TicksTest {
 
     /** All TAPS at an end and all FARS at theirs: the greatest ESTIMATE there is. */
     private static void greatestLeft() {
-        EchoTaps x = new EchoTaps();
+        Counted x = new Counted();
         x.rule(0, 1024);
         x.rule(1, 0);
         int[] fars = {1, 1, 1, 1, 1, 1, 1, 2};
@@ -138,7 +138,7 @@ public final class TicksTest {
     }
 
     private static void loudReaches23Back() {
-        EchoTaps x = new EchoTaps();
+        Counted x = new Counted();
         x.tick(-700, 0);
         for (int i = 1; i <= 23; i++) {
             x.tick(0, 0);
@@ -149,7 +149,7 @@ public final class TicksTest {
     }
 
     private static void talkAndHold() {
-        EchoTaps x = new EchoTaps();
+        Counted x = new Counted();
         x.rule(1, 3);
         x.tick(100, -51);
         DUE.is("TALK by -51 of 100", x.last(5), 1);
@@ -169,7 +169,7 @@ public final class TicksTest {
         DUE.is("HOLD stays", x.count(1), 0);
         x.tick(0, 2000);
         DUE.is("HOLD by HANG", x.count(1), 20);
-        EchoTaps y = new EchoTaps();
+        Counted y = new Counted();
         y.tick(0, 0);
         DUE.is("TALK of 0 above 0", y.last(5), 0);
         y.tick(0, 1);
@@ -177,7 +177,7 @@ public final class TicksTest {
     }
 
     private static void hangOfNought() {
-        EchoTaps x = new EchoTaps();
+        Counted x = new Counted();
         x.tick(10, 2000);
         DUE.is("HOLD", x.count(1), 5);
         x.rule(1, 0);
@@ -189,7 +189,7 @@ public final class TicksTest {
 
     private static void tones() {
         for (int p = 1; p <= 9; p++) {
-            EchoTaps x = new EchoTaps();
+            Counted x = new Counted();
             for (int t = 1; t <= 40; t++) {
                 x.tick(t % p == 0 ? 300 : -100 + t % p, 0);
                 int want = p <= 8 && t >= 16 ? p : 0;
@@ -199,7 +199,7 @@ public final class TicksTest {
             DUE.is("TONE of " + p + " broken", x.last(6), 0);
             DUE.is("beginnings of " + p, x.began(-1, 1), p <= 8 ? 1 : 0);
         }
-        EchoTaps z = new EchoTaps();
+        Counted z = new Counted();
         for (int t = 1; t <= 20; t++) {
             z.tick(0, 0);
             DUE.is("TONE of nought", z.last(6), 0);
@@ -214,7 +214,7 @@ public final class TicksTest {
 
     /** FARS ahead of TICK 1 are 0 and count among the 16: seven of them, 5, seven times 0, 5. */
     private static void toneReachesAheadOfTick1() {
-        EchoTaps x = new EchoTaps();
+        Counted x = new Counted();
         for (int t = 1; t <= 8; t++) {
             x.tick(t == 1 ? 5 : 0, 0);
             DUE.is("TONE at " + t, x.last(6), 0);
@@ -225,7 +225,7 @@ public final class TicksTest {
     }
 
     private static void onATone() {
-        EchoTaps x = new EchoTaps();
+        Counted x = new Counted();
         for (int t = 1; t <= 15; t++) {
             x.tick(800, 200);
         }
@@ -244,7 +244,7 @@ public final class TicksTest {
     }
 
     private static void learnedEdges() {
-        EchoTaps x = new EchoTaps();
+        Counted x = new Counted();
         x.rule(0, 0);
         x.tick(100, 50);
         DUE.is("learned by STEP 0", x.last(7), 1);
@@ -261,7 +261,7 @@ public final class TicksTest {
 
     private static void delaySees() {
         for (int delay = 0; delay <= 15; delay++) {
-            EchoTaps x = new EchoTaps();
+            Counted x = new Counted();
             x.rule(4, delay);
             for (int ago = 0; ago <= 23; ago++) {
                 x.tick(ago == 0 ? 100 : 0, 50);
@@ -276,7 +276,7 @@ public final class TicksTest {
     }
 
     private static void clipAndHiss() {
-        EchoTaps x = new EchoTaps();
+        Counted x = new Counted();
         x.rule(2, 100);
         x.rule(3, 50);
         DUE.is("NOISE 74 % 101 - 50", x.tick(0, 99), 24);
@@ -288,14 +288,14 @@ public final class TicksTest {
         x.rule(3, 0);
         DUE.is("NOISE without HISS", x.tick(0, 50), 0);
         DUE.is("SEED goes on", x.count(2), (75 * 5624 + 74) % 65537);
-        EchoTaps y = new EchoTaps();
+        Counted y = new Counted();
         y.rule(3, 50);
         DUE.is("CLIP 0", y.tick(0, 0), 0);
         DUE.is("SEED by CLIP 0", y.count(2), 0);
     }
 
     private static void outIsLimited() {
-        EchoTaps x = new EchoTaps();
+        Counted x = new Counted();
         x.rule(0, 1024);
         x.rule(1, 0);
         x.tick(2, -2000);
@@ -308,7 +308,7 @@ public final class TicksTest {
     }
 
     private static void lastIsOfThatTick() {
-        EchoTaps x = new EchoTaps();
+        Counted x = new Counted();
         x.tick(1000, 300);
         x.rule(4, 15);
         x.rule(2, 500);
@@ -323,15 +323,23 @@ public final class TicksTest {
     }
 
     private static void agoEdges() {
-        EchoTaps x = new EchoTaps();
+        int[] lengths = {1, 2, 31, 32, 33, 63, 64, 65, 100};
+        for (int n : lengths) {
+            Counted y = new Counted();
+            for (int t = 1; t <= n; t++) {
+                y.tick(t, -2 * t);
+            }
+            for (int i = 0; i < 32; i++) {
+                boolean was = i < n;
+                DUE.is("FAR of " + i + " ago of " + n, y.ago(i, 0), was ? n - i : -1000000006);
+                DUE.is("NEAR of " + i + " ago of " + n, y.ago(i, 1), was ? -2 * (n - i) : -1000000006);
+                DUE.holds("OUT of " + i + " ago of " + n, (y.ago(i, 2) == -1000000006) != was);
+            }
+            DUE.is("OUT of 0 ago of " + n, y.ago(0, 2), y.last(2));
+        }
+        Counted x = new Counted();
         for (int t = 1; t <= 100; t++) {
             x.tick(t, -2 * t);
-            for (int i = 0; i < 32; i++) {
-                boolean was = i < t;
-                DUE.is("FAR of " + i + " ago", x.ago(i, 0), was ? t - i : -1000000006);
-                DUE.is("NEAR of " + i + " ago", x.ago(i, 1), was ? -2 * (t - i) : -1000000006);
-            }
-            DUE.is("OUT of 0 ago", x.ago(0, 2), x.last(2));
         }
         DUE.holds("OUT is not NEAR", x.rule(2, 500) == 0 && x.tick(100, 3) == 0);
         DUE.is("OUT of 0 ago", x.ago(0, 2), 0);
@@ -339,7 +347,7 @@ public final class TicksTest {
         int[][] wrong = {{-1, 0}, {32, 0}, {0, -1}, {0, 3}, {Integer.MIN_VALUE, 0}, {0, Integer.MAX_VALUE}};
         for (int[] w : wrong) {
             DUE.is("ago(" + w[0] + ", " + w[1] + ")", x.ago(w[0], w[1]), OUT);
-            DUE.is("fresh ago(" + w[0] + ", " + w[1] + ")", new EchoTaps().ago(w[0], w[1]), OUT);
+            DUE.is("fresh ago(" + w[0] + ", " + w[1] + ")", new Counted().ago(w[0], w[1]), OUT);
         }
     }
 }

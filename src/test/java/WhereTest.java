@@ -18,7 +18,7 @@ public final class WhereTest {
     }
 
     private static void likenessByHand() {
-        EchoTaps x = new EchoTaps();
+        Counted x = new Counted();
         x.tick(10, 3);
         x.tick(-20, 5);
         x.tick(7, -2);
@@ -34,7 +34,7 @@ public final class WhereTest {
 
     private static void likenessReaches() {
         for (int d = 0; d <= 15; d++) {
-            EchoTaps x = new EchoTaps();
+            Counted x = new Counted();
             x.tick(100, d == 0 ? 2000 : 0);
             for (int t = 1; t <= d; t++) {
                 x.tick(0, t == d ? 2000 : 0);
@@ -45,7 +45,7 @@ public final class WhereTest {
             }
             DUE.is("likeness(" + d + ") with NEAR of 24 ago", x.likeness(d), 0);
         }
-        EchoTaps y = new EchoTaps();
+        Counted y = new Counted();
         for (int t = 0; t < 120; t++) {
             y.tick(-1000, 2000);
         }
@@ -54,13 +54,13 @@ public final class WhereTest {
 
     private static void seekByHand() {
         for (int d = 0; d <= 15; d++) {
-            EchoTaps x = new EchoTaps();
+            Counted x = new Counted();
             x.tick(900, 0);
             for (int t = 1; t < d; t++) {
                 x.tick(0, 0);
             }
             if (d == 0) {
-                x = new EchoTaps();
+                x = new Counted();
                 x.tick(900, -40);
             } else {
                 x.tick(0, -40);
@@ -71,7 +71,7 @@ public final class WhereTest {
     }
 
     private static void seekTakesTheLeast() {
-        EchoTaps x = new EchoTaps();
+        Counted x = new Counted();
         x.tick(5, 0);
         x.tick(-5, 0);
         x.tick(5, 0);
@@ -79,7 +79,7 @@ public final class WhereTest {
         DUE.is("likeness(1)", x.likeness(1), 35);
         DUE.is("likeness(2)", x.likeness(2), -35);
         DUE.is("seek() of sizes alike", x.seek(), 1);
-        EchoTaps y = new EchoTaps();
+        Counted y = new Counted();
         y.tick(-9, 0);
         y.tick(5, 0);
         y.tick(0, 7);
@@ -87,14 +87,14 @@ public final class WhereTest {
     }
 
     private static void seekClearsTaps() {
-        EchoTaps x = new EchoTaps();
+        Counted x = new Counted();
         x.part(3, 900);
         x.run(4, 60, 900);
         DUE.holds("TAPS were learnt", x.count(3) > 0);
         DUE.is("seek()", x.seek(), 3);
         DUE.is("sizes of TAPS", x.count(3), 0);
         DUE.is("ticks stay", x.count(0), 60);
-        EchoTaps y = new EchoTaps();
+        Counted y = new Counted();
         y.tick(1000, 100);
         y.rule(0, 0);
         y.rule(4, 9);
@@ -107,7 +107,7 @@ public final class WhereTest {
     }
 
     private static void gainByHand() {
-        EchoTaps x = new EchoTaps();
+        Counted x = new Counted();
         DUE.is("gain(-1)", x.gain(-1), -2);
         DUE.is("gain(2)", x.gain(2), -2);
         DUE.is("gain(least int)", x.gain(Integer.MIN_VALUE), -2);
@@ -121,13 +121,13 @@ public final class WhereTest {
         // (36 + 64) by 36
         DUE.is("gain(0)", x.gain(0), 25);
         DUE.is("gain(1)", x.gain(1), 9);
-        EchoTaps y = new EchoTaps();
+        Counted y = new Counted();
         y.rule(2, 1);
         y.rule(3, 9);
         DUE.is("NOISE", y.tick(0, 0), 74 % 19 - 9);
         DUE.is("gain(0) of 0 by 64", y.gain(0), 0);
         DUE.is("gain(1) of 0 by 64", y.gain(1), 1);
-        EchoTaps z = new EchoTaps();
+        Counted z = new Counted();
         z.rule(2, 500);
         z.tick(0, 400);
         DUE.is("gain(0) with OUT 0", z.gain(0), -3);
@@ -136,7 +136,7 @@ public final class WhereTest {
     }
 
     private static void gainSpans32() {
-        EchoTaps x = new EchoTaps();
+        Counted x = new Counted();
         x.rule(2, 5);
         x.tick(0, 10);
         x.tick(0, 4);
@@ -148,7 +148,7 @@ public final class WhereTest {
         DUE.is("gain(1) of 32", x.gain(1), 25);
         x.tick(0, 0);
         DUE.is("gain(0), the 10 is 32 ago", x.gain(0), -3);
-        EchoTaps y = new EchoTaps();
+        Counted y = new Counted();
         for (int i = 0; i < 40; i++) {
             y.tick(0, i == 39 ? 1999 : 2000);
         }
@@ -156,7 +156,7 @@ public final class WhereTest {
     }
 
     private static void beganByHand() {
-        EchoTaps x = new EchoTaps();
+        Counted x = new Counted();
         int[] nears = {5, 5, 0, 7, 0, 0, 9, 9, 9};
         for (int near : nears) {
             x.tick(0, near);
@@ -180,7 +180,7 @@ public final class WhereTest {
     }
 
     private static void beganSpans200() {
-        EchoTaps x = new EchoTaps();
+        Counted x = new Counted();
         x.tick(0, 1);
         x.tick(0, 1);
         for (int t = 3; t <= 200; t++) {
@@ -190,7 +190,7 @@ public final class WhereTest {
         x.tick(0, 0);
         DUE.is("TICK 2 had been TALK ahead", x.began(0, 0), -6);
         DUE.is("how many", x.began(-1, 0), 0);
-        EchoTaps y = new EchoTaps();
+        Counted y = new Counted();
         for (int t = 1; t <= 480; t++) {
             y.tick(0, t % 7 == 0 ? 1 : 0);
         }
@@ -199,7 +199,7 @@ public final class WhereTest {
         DUE.is("the oldest", y.began(0, 0), 287);
         DUE.is("the last", y.began(27, 0), 476);
         DUE.is("beyond", y.began(28, 0), -6);
-        EchoTaps z = new EchoTaps();
+        Counted z = new Counted();
         for (int t = 1; t <= 300; t++) {
             z.tick(0, 1);
         }
@@ -207,7 +207,7 @@ public final class WhereTest {
     }
 
     private static void beganRefusals() {
-        EchoTaps x = new EchoTaps();
+        Counted x = new Counted();
         x.tick(0, 1);
         int[] wrong = {-1, 2, Integer.MIN_VALUE, Integer.MAX_VALUE};
         for (int w : wrong) {
