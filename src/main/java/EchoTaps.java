@@ -239,7 +239,7 @@ public final class EchoTaps {
         return (75 * z + 74) % SEED_RANGE;
     }
 
-    /** A number of -top to top; the callers keep top at 0 or more, so that the divisor is never 0. */
+    /** A number of -top to top; the divisor is odd, so that it is never 0. */
     private static int centred(int z, int top) {
         return z % (2 * top + 1) - top;
     }

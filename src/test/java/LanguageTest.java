@@ -7,8 +7,10 @@ import java.nio.file.Files;
 import java.nio.file.Path;
 import java.util.ArrayList;
 import java.util.Arrays;
+import java.util.HashMap;
 import java.util.HashSet;
 import java.util.List;
+import java.util.Map;
 import java.util.Set;
 import java.util.regex.Matcher;
 import java.util.regex.Pattern;
@@ -16,7 +18,7 @@ import java.util.regex.Pattern;
 /** What of ../shared/LANGUAGE.md can be read off the source and the compiled class; each check names its rule. */
 public final class LanguageTest {
     private static final Path SOURCE = Path.of("src/main/java/EchoTaps.java");
-    private static final int METHOD_LINES = 60, PARAMETERS = 7, CLASSES = 12, FIELDS = 20;
+    private static final int METHOD_LINES = 60, PARAMETERS = 7, CLASSES = 12, FIELDS = 20, DEPTH = 8;
     private static final Due DUE = new Due();
 
     public static void main(String[] args) throws IOException {
@@ -26,6 +28,7 @@ public final class LanguageTest {
         words(code);
         library(code);
         lengths(code);
+        depths(code);
         List<Class<?>> classes = new ArrayList<>(Arrays.asList(EchoTaps.class.getDeclaredClasses()));
         nested(classes);
         classes.add(EchoTaps.class);
@@ -88,6 +91,39 @@ public final class LanguageTest {
             }
         }
         DUE.holds("methods were looked at: " + methods, methods >= 17);
+    }
+
+    /** Methods are told apart by name alone; the class has no two of one name. */
+    private static void depths(String code) {
+        Map<String, String> bodies = new HashMap<>();
+        Matcher m = Pattern.compile("(?ms)^( {4}| {8})[a-z][\\w \\[\\]]* (\\w+)\\([^()]*\\) \\{\n(.*?)^\\1\\}").matcher(code);
+        int at = 0;
+        while (m.find(at)) {
+            DUE.holds("one method of the name " + m.group(2), bodies.put(m.group(2), m.group(3)) == null);
+            at = m.start(3);
+        }
+        Set<String> names = new HashSet<>();
+        for (Class<?> c : new Class<?>[] {EchoTaps.class, EchoTaps.class.getDeclaredClasses()[0]}) {
+            for (Method method : c.getDeclaredMethods()) {
+                names.add(method.getName());
+            }
+        }
+        names.add("EchoTaps");
+        DUE.holds("methods found " + bodies.keySet() + " are " + names, bodies.keySet().equals(names));
+        for (String name : bodies.keySet()) {
+            int deep = depthOf(name, bodies, DEPTH + 1);
+            DUE.holds("rules 8, 11: calls from " + name + " go " + deep + " deep", deep <= DEPTH);
+        }
+    }
+
+    /** How many calls stand open at once from a method on, itself and the library's counted; most: so many or more. */
+    private static int depthOf(String name, Map<String, String> bodies, int most) {
+        int deepest = 0;
+        Matcher m = Pattern.compile("\\b(\\w+)\\(").matcher(bodies.getOrDefault(name, ""));
+        while (m.find() && most > 1) {
+            deepest = Math.max(deepest, depthOf(m.group(1), bodies, most - 1));
+        }
+        return 1 + deepest;
     }
 
     private static void nested(List<Class<?>> classes) {
